@@ -710,7 +710,7 @@ public final class JavaBridge {
             return i < 0 || i >= cells.length;
         }
 
-        /** As in the host's own rows, nothing may be put into every cell. */
+        /** A put of NOTHING comes back for every SHELF, as it does in rows of Java. */
         private int put(int i, Thing given) {
             if (isOutside(i)) {
                 return THROWS_INDEX;
