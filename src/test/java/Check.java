@@ -16,6 +16,14 @@ final class Check {
         }
     }
 
+    void alike(String what, String got, String want) {
+        looked++;
+        if (!got.equals(want)) {
+            wrong++;
+            System.out.println(title + ": " + what + "\n  is  " + got + "\n  due " + want);
+        }
+    }
+
     /** The answer of share(); -1 where it throws by itself, -2 where the machine does. */
     static long share(JavaBridge x) {
         try {
