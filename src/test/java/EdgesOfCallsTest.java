@@ -16,6 +16,7 @@ public final class EdgesOfCallsTest {
     private static final Edges EDGES = new Edges("edges of calls");
 
     public static void main(String[] args) {
+        callGoesIn();
         callAnswers();
         callNoSuch();
         callKinds();
@@ -37,6 +38,21 @@ public final class EdgesOfCallsTest {
 
     private static void due(String what, long got, long want) {
         EDGES.due(what, got, want);
+    }
+
+    private static void callGoesIn() {
+        EDGES.sentence("Promise 13: call", "A WORD is called on what a place holds, with what two places hold;");
+        Bridge x = Scene.filled();
+        x.number(NUMBER, 1, 2);
+        due("put on a SHELF, with an INT and a TWICE", x.call(Scene.SHELVE, SHELF, NUMBER, TWICE, TO), 0);
+        due("it is in that cell", x.ask(2, 1, SHELF, 2), 5);
+        due("the very same", x.same(TO, TWICE), 1);
+        due("it is not in another SHELF's", x.give(2, 1, TWICES, NUMBER, 1), -13);
+        x.declareOwn(8, 0, 6, 0);
+        due("whether a CELL is what the first place holds", x.call(8, CELL, CELL, TWICE, TO), 1);
+        due("it is", x.value(TO), 1);
+        due("the other place is not looked at", x.call(8, CELL, TWICE, CELL, TO), 1);
+        due("it is not", x.value(TO), 0);
     }
 
     private static void callAnswers() {

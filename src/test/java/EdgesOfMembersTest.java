@@ -42,6 +42,7 @@ public final class EdgesOfMembersTest {
         shelfSumThrows();
         shelfFirst();
         shelfFirstThrows();
+        makerOnNoObject();
         makeCells();
         lengthsThrow();
         lengths();
@@ -557,6 +558,19 @@ public final class EdgesOfMembersTest {
             ahead.accept(x);
             x.declareOwn(9, 2, 4, marks);
         }, x -> x.call(9, SHELF, row, 0, TO), kind);
+    }
+
+    private static void makerOnNoObject() {
+        sentence("of 3, each without an OBJECT it is called on:");
+        int[] ons = {-1, 10, LEAST, MOST, EMPTY, NUMBER, CELL, ROW};
+        int[] comes = {4, 5, 6, 6, 7, 1, 5};
+        for (int m = 0; m < comes.length; m++) {
+            for (int on : ons) {
+                Bridge x = Scene.filled();
+                x.declareOwn(9, 3, m, 0);
+                due("MEMBER " + m + " on " + on, x.call(9, on, m == 6 ? TWICE : NUMBER, 0, TO), comes[m]);
+            }
+        }
     }
 
     private static void makeCells() {

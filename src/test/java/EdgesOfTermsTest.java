@@ -22,12 +22,15 @@ public final class EdgesOfTermsTest {
     public static void main(String[] args) {
         lastCall();
         laterCalls();
+        kinds();
         objects();
         fullPlaces();
         isOfKind();
+        classes();
         keptAtFirst();
         shelvesAtFirst();
         wordsAreTen();
+        membersByNumber();
         twoGoIn();
         sameKindsGoIn();
         may();
@@ -94,6 +97,21 @@ public final class EdgesOfTermsTest {
         due("all of them end", ended, 3000);
     }
 
+    private static void kinds() {
+        sentence("KINDS: 0 UNIT, 1 INT, 2 LONG, 3 REAL (a double), 4 CELL, 5 TWICE, 6 SHELF, 7 INTS, 8 ANY.");
+        Bridge x = Scene.filled();
+        for (int place = 0; place < 10; place++) {
+            due("what is in " + place, x.kind(place), HELD[place]);
+        }
+        x.number(TO, 2, 3);
+        due("a LONG is told as it is", x.value(TO), 3);
+        x.number(TO, 3, 3);
+        due("a REAL is told as a double", x.value(TO), Double.doubleToLongBits(3.0));
+        due("UNIT comes", x.ask(0, 1, CELL, 3), 0);
+        due("an OBJECT's own KIND, where ANY comes", x.give(0, 9, CELL, NUMBER, 0), 5);
+        due("8 is told of a MEMBER", x.member(0, 9, 2), 8);
+    }
+
     private static void objects() {
         sentence("4 to 8 are OBJECTS: CELLS, TWICES (each is a CELL, too), SHELVES, INTS (rows of ints); "
             + "ANY is each of these.");
@@ -155,6 +173,19 @@ public final class EdgesOfTermsTest {
         }
     }
 
+    private static void classes() {
+        sentence("CLASSES of the host: 0 CELLS, 1 TWICES, 2 SHELVES, 3 THE MAKER.");
+        Bridge x = Scene.filled();
+        due("a MEMBER of CLASS 0, on a CELL", x.ask(0, 0, CELL, 0), 1);
+        due("its get", x.value(TO), 1);
+        due("a MEMBER of CLASS 1, on a TWICE", x.ask(1, 0, TWICE, 0), 1);
+        due("its get", x.value(TO), 10);
+        due("a MEMBER of CLASS 2, on a SHELF", x.ask(2, 2, SHELF, 0), 1);
+        due("its size", x.value(TO), 3);
+        due("a MEMBER of CLASS 3, of THE MAKER", x.ask(3, 5, EMPTY, 0), 1);
+        due("what it made", x.value(TO), 5);
+    }
+
     private static void keptAtFirst() {
         sentence("CELLS, TWICES have a V (an int) and a KEPT (an OBJECT or nothing);");
         for (int m = 0; m < 2; m++) {
@@ -205,6 +236,18 @@ public final class EdgesOfTermsTest {
         }
         due("call of -1", x.call(-1, 0, 0, 0, 0), -1);
         due("call of 10", x.call(10, 0, 0, 0, 0), -1);
+    }
+
+    private static void membersByNumber() {
+        sentence("of a CLASS, by number, with KINDS of what goes in");
+        Bridge x = Scene.filled();
+        x.ask(0, 2, CELL, 2);
+        due("2 of CLASS 0 is add", x.value(TO), 3);
+        x.ask(1, 2, TWICE, 2);
+        due("2 of CLASS 1 is add, of a TWICE", x.value(TO), 14);
+        x.ask(2, 2, SHELF, 2);
+        due("2 of CLASS 2 is size", x.value(TO), 3);
+        due("2 of CLASS 3 is shelf", x.ask(3, 2, EMPTY, 2), 6);
     }
 
     private static void twoGoIn() {

@@ -10,12 +10,18 @@ public final class FaceTest {
         "number(int,int,long):int", "move(int,int):int", "kind(int):int", "value(int):long", "same(int,int):int",
         "cell(int,int):long", "set(int,int,int):int", "members(int):int", "member(int,int,int):int",
         "declare(int,int,int,int,int,int,int):int", "word(int,int):int", "call(int,int,int,int,int):int",
-        "row(int,int,int,int,int,int):int", "latest():int", "started(int):int", "share():int"};
+        "row(int,int,int,int,int,int):int", "latest():int", "started(int):int",
+        "share():int throws java.lang.ArithmeticException"};
     private static final Check CHECK = new Check("face");
 
-    public static void main(String[] args) {
+    public static void main(String[] args) throws NoSuchFieldException {
         methods();
+        Field nothing = JavaBridge.class.getDeclaredField("NOTHING");
+        CHECK.due("NOTHING is a long", nothing.getType() == long.class ? 1 : 0, 1);
+        CHECK.due("NOTHING is public, static and final", nothing.getModifiers(),
+            Modifier.PUBLIC | Modifier.STATIC | Modifier.FINAL);
         fields(JavaBridge.class);
+        CHECK.due("NOTHING", JavaBridge.NOTHING, Long.MIN_VALUE);
         Constructor<?>[] constructors = JavaBridge.class.getDeclaredConstructors();
         CHECK.due("one constructor", constructors.length, 1);
         CHECK.due("it is public", constructors[0].getModifiers(), Modifier.PUBLIC);
@@ -52,7 +58,11 @@ public final class FaceTest {
         for (Class<?> p : m.getParameterTypes()) {
             text.append(text.charAt(text.length() - 1) == '(' ? "" : ",").append(p.getName());
         }
-        return text.append("):").append(m.getReturnType().getName()).toString();
+        text.append("):").append(m.getReturnType().getName());
+        for (Class<?> e : m.getExceptionTypes()) {
+            text.append(" throws ").append(e.getName());
+        }
+        return text.append(Modifier.isStatic(m.getModifiers()) ? " static" : "").toString();
     }
 
     private static void fields(Class<?> c) {

@@ -5,8 +5,9 @@ import java.util.Random;
  * whose host is the real one: Java's own classes, casts, rows and exceptions.
  */
 public final class ModelTest {
-    private static final int RUNS = 3000;
-    private static final int CALLS = 512;
+    private static final int RUNS = 6000;
+    private static final int MOST_CALLS = 512;
+    private static final int MOST_IN_STEP = 4;
     private static final Check CHECK = new Check("model");
 
     public static void main(String[] args) {
@@ -28,6 +29,7 @@ public final class ModelTest {
     private final Random random;
     private final JavaBridge x = new JavaBridge();
     private final Model y = new Model();
+    private int calls;
 
     private ModelTest(int run) {
         this.run = run;
@@ -35,9 +37,10 @@ public final class ModelTest {
     }
 
     private void go() {
-        for (int i = 0; i < CALLS && CHECK.wrong() < 20; i++) {
+        for (int i = 0; calls + MOST_IN_STEP <= MOST_CALLS && CHECK.wrong() < 20; i++) {
             one(i);
         }
+        CHECK.due("run " + run + " makes no more calls than are promised", calls <= MOST_CALLS ? 1 : 0, 1);
     }
 
     /** Mostly one of 0 to 9, now and then one beside them. */
@@ -79,8 +82,10 @@ public final class ModelTest {
         }
     }
 
+    /** What one call answered; i is the step that it was made in. */
     private void due(int i, String what, long got, long want) {
-        CHECK.due("run " + run + " call " + i + " " + what, got, want);
+        calls++;
+        CHECK.due("run " + run + " step " + i + " " + what, got, want);
     }
 
     private void number(int i) {
@@ -165,7 +170,7 @@ public final class ModelTest {
         int p = place();
         int q = place();
         int v = small();
-        switch (random.nextInt(9)) {
+        switch (random.nextInt(11)) {
             case 0:
                 int from = random.nextInt(6) == 0 ? -1 : q;
                 due(i, "move " + p + " " + from, x.move(p, from), y.move(p, from));
@@ -182,7 +187,8 @@ public final class ModelTest {
                 due(i, "set " + p + " " + v + " " + q, x.set(p, v, q), y.set(p, v, q));
                 break;
             case 4:
-                due(i, "word " + p + " " + v, x.word(p, v), y.word(p, v));
+                int told = random.nextInt(8) - 1;
+                due(i, "word " + p + " " + told, x.word(p, told), y.word(p, told));
                 break;
             case 5:
                 due(i, "started " + v, x.started(v), y.started(v));
@@ -193,9 +199,22 @@ public final class ModelTest {
             case 7:
                 due(i, "value " + p, x.value(p), y.value(p));
                 break;
+            case 8:
+                due(i, "kind " + p, x.kind(p), Model.isPlace(p) ? Model.kindOf(y.places[p]) : -1);
+                break;
+            case 9:
+                lookAtMember(i, random.nextInt(6) - 1, random.nextInt(13) - 1, random.nextInt(5) - 1);
+                break;
             default:
                 due(i, "latest", x.latest(), y.latest);
         }
+    }
+
+    private void lookAtMember(int i, int cls, int m, int what) {
+        int count = y.members(cls);
+        due(i, "members " + cls, x.members(cls), count);
+        long want = m < 0 || m >= count ? -1 : what < 0 || what > 2 ? -2 : y.member(cls, m, what);
+        due(i, "member " + cls + " " + m + " " + what, x.member(cls, m, what), want);
     }
 
     private static class MCell {
